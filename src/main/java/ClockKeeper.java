@@ -523,7 +523,7 @@ public final class ClockKeeper {
         }
     }
 
-    /** What a rack's E says, as steps on a stack: a number from 0 on is put there, the others do what they are named. */
+    /** What a rack's E says, as steps on a stack: a number from 0 on is put there, the others are named below. */
     private static final class Formula {
         static final int HOUR_SHOWN = -1;
         static final int DATE_SHOWN = -2;
@@ -769,7 +769,7 @@ public final class ClockKeeper {
             return false;
         }
 
-        /** Blanks go with what stands ahead of them, so that at is always where the next word, number or sign begins. */
+        /** Blanks go with what stands ahead of them, so that what is next begins where at is. */
         private void skipBlanks() {
             for (; at < length && text[at] == ' '; at++) {
             }
@@ -1180,8 +1180,6 @@ public final class ClockKeeper {
             int quarters = (int) (quarter / QUARTER) % 96;
             int hour = quarters / 4;
             boolean silent = works.isSilent(hour);
-            chime = 0;
-            strike = 0;
             audible = !silent;
             if (silent && works.stopped) {
                 return;
@@ -1398,7 +1396,7 @@ public final class ClockKeeper {
             return k >= 0 && k < best.length ? best[k] : NONE;
         }
 
-        /** Orders come by numbers, so that of alike ones the first stays; depth ends at the six that a round may have. */
+        /** Orders come by numbers, so that of alike ones the first stays; depth ends at the six of a ROUND. */
         private void goOn(int depth, int bits, int x, int y, int time, int stops) {
             if (stops > bestStops || stops == bestStops && time >= bestDone) {
                 return;
@@ -1410,15 +1408,17 @@ public final class ClockKeeper {
                 return;
             }
             for (int i = 0; i < clocks.length; i++) {
-                Clock c = clocks[i];
-                if (c != null && (bits >> i & 1) == 1) {
-                    int comes = time + c.farFrom(x, y);
-                    int leftThen = Math.max(0, c.left - comes);
+                if (clocks[i] != null && (bits >> i & 1) == 1) {
                     order[depth] = i;
-                    goOn(depth + 1, bits & ~(1 << i), c.x, c.y, comes + c.windingMinutes(leftThen),
-                        stops + (leftThen == 0 ? 1 : 0));
+                    comeTo(clocks[i], depth, bits & ~(1 << i), clocks[i].farFrom(x, y) + time, stops);
                 }
             }
+        }
+
+        private void comeTo(Clock c, int depth, int bitsLeft, int time, int stops) {
+            int leftThen = Math.max(0, c.left - time);
+            int stopped = leftThen == 0 ? 1 : 0;
+            goOn(depth + 1, bitsLeft, c.x, c.y, time + c.windingMinutes(leftThen), stops + stopped);
         }
     }
 
@@ -1508,15 +1508,19 @@ public final class ClockKeeper {
             return bits;
         }
 
-        /** Calls itself a day later, so no deeper than there are days. */
         private int fewest(int time, int now) {
             if (time >= days) {
                 return 0;
             }
             int note = noteOf(time, now);
-            if (notes[note] >> 6 == serial) {
-                return notes[note] & NO_WAY;
+            if (notes[note] >> 6 != serial) {
+                notes[note] = serial << 6 | tryAll(time, now);
             }
+            return notes[note] & NO_WAY;
+        }
+
+        /** It and fewest() call one another a day later each time, so no deeper than there are days. */
+        private int tryAll(int time, int now) {
             int best = NO_WAY;
             for (int wound = 0; wound < 1 << count; wound++) {
                 int next = stateBehind(time, now, wound);
@@ -1524,7 +1528,6 @@ public final class ClockKeeper {
                     best = Math.min(best, Integer.bitCount(wound) + fewest(time + 1, next));
                 }
             }
-            notes[note] = serial << 6 | best;
             return best;
         }
 

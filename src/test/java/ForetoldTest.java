@@ -10,6 +10,7 @@ public final class ForetoldTest {
         comesTrue();
         changesNothing();
         ofARack();
+        ofOneBehindAnother();
         unheard();
         refuses();
         counts();
@@ -75,6 +76,17 @@ public final class ForetoldTest {
 
     private static ClockKeeper loud() {
         return Due.with("quarters 1 1 1 1;strike rack 4;strokes 2000;run 31;");
+    }
+
+    private static void ofOneBehindAnother() {
+        ClockKeeper k = new ClockKeeper();
+        Due.clock(k, 0, 0, "calendar months;strike rack month;");
+        Due.pass(k, 58 * 1440);
+        Due.clock(k, 0, 0, "calendar months;strike rack month;wear 500;");
+        Due.is("1st of month 2", k.foretold(0, 3000, 4), 9);
+        Due.is("28th of month 2", k.foretold(1, 1440, 4), 1);
+        Due.is("strokes by the month", k.foretold(1, 1500, 6), 23 * 2 + 3);
+        Due.is("OILED when it came", k.foretold(1, 1440, 0), 0);
     }
 
     private static void unheard() {

@@ -16,6 +16,7 @@ public final class GoingTest {
         handsThatLet();
         dates();
         leapYears();
+        wholeYears();
         pennies();
         Due.end();
     }
@@ -167,9 +168,9 @@ public final class GoingTest {
         Due.is("cut", told8("strike rack 10+(0-7)/2;", 0), 7);
         Due.is("what is left has the sign", told8("strike rack 10+(0-7)%4;", 0), 7);
         Due.is("from the left", told8("strike rack 20-3-2*3%4;", 0), 15);
-        Due.is("less", told8("strike rack if(1<2,3,4)+if(2<2,10,11);", 0), 14);
-        Due.is("more", told8("strike rack if(2>1,3,4)+if(2>2,10,11);", 0), 14);
-        Due.is("alike", told8("strike rack if(2=2,3,4)+if(1=2,10,11);", 0), 14);
+        Due.is("less", told8("strike rack if(1<2,3,4)+if(2<2,1,11)+if(3<2,0,5);", 0), 19);
+        Due.is("more", told8("strike rack if(2>1,3,4)+if(2>2,1,11)+if(2>3,0,5);", 0), 19);
+        Due.is("alike", told8("strike rack if(2=2,3,4)+if(1=2,1,11)+if(2=1,0,5);", 0), 19);
         Due.is("plain hours at 0", told8("", 1430), 12);
         Due.is("plain hours at 13", told8("", 730), 1);
         Due.refused("what -1", Due.ARGUMENT, () -> k.told(0, -1));
@@ -293,10 +294,44 @@ public final class GoingTest {
         Due.is("now it is the 1st", k.count(7), 1);
         Due.is("of month 3", k.count(8), 3);
         Due.is("months is right now", k.told(1, 6), 1);
-        Due.is("leap is wrong now", k.told(0, 6), 0);
+        k.leap(true);
         k.wait(1440);
-        Due.is("behind a 29th that isn't it is 1", k.told(0, 3), 1);
-        Due.is("of month 3", k.told(0, 4), 3);
+        Due.is("the day behind", k.count(7), 1);
+        Due.is("is of month 3", k.count(8), 3);
+        Due.is("on the clock too", k.told(0, 6), 1);
+        k.hands(0, -1, false);
+        k.leap(false);
+        Due.refit(k, 0, "run 31;calendar leap;");
+        Due.is("leap is wrong now", k.told(0, 6), 0);
+        ClockKeeper late = new ClockKeeper();
+        late.leap(true);
+        Due.pass(late, 59 * 1440);
+        Due.clock(late, 0, 0, "calendar leap;");
+        Due.is("29th of month 2", late.told(0, 3), 29);
+        late.leap(false);
+        late.wait(1440);
+        Due.is("behind a 29th that isn't it is 1", late.told(0, 3), 1);
+        Due.is("of month 3", late.told(0, 4), 3);
+    }
+
+    /** The DATE goes on by a day each time that the hands are put back and midnight comes again. */
+    private static void wholeYears() {
+        String[] calendars = {"plain", "months", "leap"};
+        int[][] days = {{31, 31, 31, 31, 31, 31, 31, 31, 31, 31, 31, 31}, {31, 28, 31, 30, 31, 30, 31, 31, 30, 31, 30, 31},
+            {31, 29, 31, 30, 31, 30, 31, 31, 30, 31, 30, 31}};
+        for (int i = 0; i < 3; i++) {
+            ClockKeeper k = Due.with("run 31;calendar " + calendars[i] + ";");
+            k.leap(true);
+            k.hands(0, -60, false);
+            for (int month = 1; month <= 14; month++) {
+                for (int date = 1; date <= days[i][(month - 1) % 12]; date++) {
+                    Due.is("DATE of " + calendars[i], k.told(0, 3), date);
+                    Due.is("month of " + calendars[i], k.told(0, 4), (month - 1) % 12 + 1);
+                    k.wait(1);
+                    k.hands(0, -60, false);
+                }
+            }
+        }
     }
 
     private static void pennies() {

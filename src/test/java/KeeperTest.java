@@ -126,8 +126,12 @@ public final class KeeperTest {
         plan(k, 1, 1, 1, 0, 0, 1);
         plan(k, 1, 1, 1, 0, 0, 1, 0);
         plan(k, 1, 1, 2, 0, 0, 1, 0, 1);
-        k.wait(1440);
+        k.wait(1439);
+        Due.is("a minute more than two DAYS", k.told(0, 0), 2881);
+        plan(k, 1, 1, 0, 0, 0);
+        k.wait(1);
         plan(k, 1, 1, 0, 0);
+        plan(k, 1, 1, 1, 0, 1);
         plan(k, 1, 1, 1, 0, 1);
         k.wait(1440);
         Due.is("a DAY is LEFT", k.told(0, 0), 1440);

@@ -104,6 +104,8 @@ public final class ModelTest {
                 () -> model.clock(x, y, length));
         }
         same("fault()", keeper::fault, () -> model.faultPlace);
+        int latest = model.clocks.size() - 1;
+        same("told(" + latest + ", 8)", () -> keeper.told(latest, 8), () -> model.told(latest, 8));
     }
 
     private void feed(String text) {
@@ -216,8 +218,8 @@ public final class ModelTest {
             return "(" + sum(depth + 1) + ")";
         }
         if (depth < 9 && chance.nextInt(6) == 0) {
-            return "if(" + sum(depth + 1) + pick("<", ">", "=") + sum(depth + 1) + "," + sum(depth + 1) + blanks() + ","
-                + sum(depth + 1) + ")";
+            String test = chance.nextBoolean() ? "hour" + pick("<", ">", "=") + n(0, 23) : sum(depth + 1) + pick("<", ">", "=") + n(0, 9);
+            return "if(" + test + "," + sum(depth + 1) + blanks() + "," + unit(depth + 1) + ")";
         }
         return pick("hour", "date", "month", "hour", Integer.toString(number(0, 99)), Integer.toString(n(0, 12)));
     }

@@ -121,6 +121,10 @@ public final class StrikingTest {
         Due.is("round", k.trip(0, true), 0);
         Due.is("a LIFT round", k.trip(0, false), 2);
         Due.is("it takes none", k.told(0, 1), 1);
+        Due.refit(k, 0, "strike wheel 1,1;");
+        Due.is("RINGS just enough", k.trip(0, true), 1);
+        Due.is("none left", k.told(0, 1), 0);
+        Due.is("too few", k.trip(0, true), -2);
         Due.is("nothing is heard", k.count(5), 0);
         ClockKeeper rack = Due.with("");
         Due.is("TRIP of a rack", rack.trip(0, true), -1);
@@ -177,6 +181,15 @@ public final class StrikingTest {
         ClockKeeper dearer = Due.with(HOURS);
         dearer.hands(0, 7 * 3600, false);
         mended(dearer, "seven TRIPS of 28", 35, 7, 0);
+        ClockKeeper just = Due.with("strokes 28;" + HOURS);
+        just.hands(0, 7 * 3600, false);
+        mended(just, "RINGS just enough", 35, 7, 0);
+        ClockKeeper few = Due.with("strokes 27;" + HOURS);
+        few.hands(0, 7 * 3600, false);
+        mended(few, "one too few", 50, 5, 1);
+        ClockKeeper lateWrong = Due.with("strike wheel 2,2,3,4,5,6,7,8,9,10,11,12;");
+        lateWrong.hands(0, 3600, false);
+        mended(lateWrong, "wrong at one place", -1, -1, -1);
         ClockKeeper never = Due.with("strike wheel 9,1,2,3,4,5,6,7,8,9,10,11,12;");
         mended(never, "never", -1, -1, -1);
         ClockKeeper day = Due.with("strike wheel 1,2,3,4,5,6,7,8,9,10,11,12,1,2,3,4,5,6,7,8,9,10,11,12;");
@@ -258,6 +271,8 @@ public final class StrikingTest {
         Due.is("none behind", k.witness(0, 0, 3, -1), -1);
         Due.is("another hour", k.witness(0, 0, 5, 0), -1);
         Due.is("another place", k.witness(90, 90, 5, 2), 179);
+        Due.is("the least hour", k.witness(0, 0, 1, 0), -1);
+        Due.is("the last hour", k.witness(0, 0, 12, 0), -1);
         Due.is("a place without any", k.witness(50, 50, 5, 0), -1);
         Due.refused("x 100", Due.ARGUMENT, () -> k.witness(100, 0, 1, 0));
         Due.refused("y -1", Due.ARGUMENT, () -> k.witness(0, -1, 1, 0));

@@ -12,6 +12,7 @@ public final class TextTest {
         faultsOfTooMany();
         blanks();
         lastOfAKind();
+        nothingStaysOfAFaultyOne();
         refits();
         Due.end();
     }
@@ -53,6 +54,12 @@ public final class TextTest {
         Due.is("a 9th", k.clock(0, 0, 6), -1);
         Due.is("the TAPE is empty", k.count(6), 0);
         Due.is("no fault", k.fault(), -1);
+        Due.is("a faulty refit", Due.refit(k, 0, "run 8;bell;"), -9);
+        Due.is("its place", k.fault(), 6);
+        Due.refused("a refit that is refused", Due.ARGUMENT, () -> k.refit(0, 1));
+        Due.is("the place stays", k.fault(), 6);
+        Due.is("a 9th", k.clock(0, 0, 0), -1);
+        Due.is("no fault then", k.fault(), -1);
         ClockKeeper late = new ClockKeeper();
         late.wait(3000);
         late.clock(0, 0, 0);
@@ -65,6 +72,11 @@ public final class TextTest {
     private static void faultsOfWords() {
         Due.faulty("runs 8;", 1, 0);
         Due.faulty("  Run 8;", 1, 2);
+        Due.faulty("runz 8;", 1, 0);
+        Due.faulty("run{8;", 1, 3);
+        Due.faulty("run`8;", 1, 3);
+        Due.faulty("run /8;", 1, 4);
+        Due.faulty("run :8;", 1, 4);
         Due.faulty("8;", 1, 0);
         Due.faulty(";", 1, 0);
         Due.faulty("run 8;;", 1, 6);
@@ -171,6 +183,39 @@ public final class TextTest {
         Due.is("a wheel behind a rack", k.told(0, 8), 5);
         k = Due.with("strike wheel 5,2;strike wheel 3;");
         Due.is("PLACE goes round the last wheel", k.trip(0, true), 0);
+    }
+
+    private static void nothingStaysOfAFaultyOne() {
+        String all = "run 2;base 3;warm 4;wear 5;pull 6;penny 7;strike wheel 1,2;strokes 9;quarters 1 2 3 4;silent 0-23 stopped;"
+            + "calendar months;reach 11;strike rack ((";
+        ClockKeeper k = new ClockKeeper();
+        Due.is("faulty", Due.clock(k, 0, 0, all), -9);
+        Due.is("place", k.fault(), all.length());
+        Due.is("without any", k.clock(0, 0, 0), 0);
+        Due.is("run 8", k.told(0, 0), 8 * 1440);
+        Due.is("strokes 400", k.told(0, 1), 400);
+        Due.is("a rack", k.told(0, 2), -1);
+        Due.is("strikes 1 next", k.told(0, 8), 1);
+        k.warmth(20);
+        Due.is("base 0, warm 0", k.rate(0), 0);
+        k.pennies(0, 1);
+        Due.is("penny 4", k.rate(0), 4);
+        k.wait(60);
+        Due.is("never silent, no quarters", k.count(5), 1);
+        Due.is("its strokes", k.told(0, 1), 399);
+        Due.is("reach 30", k.heard(15, 15, 59, 0), 1);
+        Due.is("and not 31", k.heard(15, 16, 59, 0), 0);
+        k.wait(3000);
+        Due.is("wear 0, pull 0", k.rate(0), 4);
+        ClockKeeper deep = new ClockKeeper();
+        Due.is("open brackets", Due.clock(deep, 0, 0, "strike rack ((((((((1"), -9);
+        Due.is("are closed for the next", Due.clock(deep, 0, 0, "strike rack ((((((((1))))))));"), 0);
+        ClockKeeper plain = new ClockKeeper();
+        Due.pass(plain, 58 * 1440);
+        Due.is("faulty", Due.clock(plain, 0, 0, "calendar months;x"), -9);
+        plain.clock(0, 0, 0);
+        plain.wait(1440);
+        Due.is("calendar plain", plain.told(0, 3), 29);
     }
 
     private static void refits() {

@@ -54,7 +54,9 @@ public final class GoingTest {
         for (int i = 1; i <= 1700; i++) {
             many.warmth(0);
         }
+        Due.is("the 1701st", many.warmth(0), -1);
         Due.is("told most", many.count(2), 1700);
+        Due.refused("none such, when all are told", Due.ARGUMENT, () -> many.warmth(51));
     }
 
     private static void waiting() {

@@ -142,9 +142,14 @@ public final class KnowledgeTest {
         Due.is("neither, but at once", k.beyond(0, 0, 1000), 400);
         k.read(0, 1000, 100000000);
         Due.is("never so much at first", k.beyond(0, 100000000, 1000), 1001);
+        k.clock(0, 0, 0);
+        k.read(1, 0, 0);
+        k.read(1, 1, 1);
+        Due.is("in MINUTE 200,000", k.beyond(1, 199999, 1000), 200000);
+        Due.is("in MINUTE 200,001", k.beyond(1, 200000, 1000), -1);
         Due.refused("bound -1", Due.ARGUMENT, () -> k.beyond(0, -1, 1000));
         Due.refused("bound too big", Due.ARGUMENT, () -> k.beyond(0, 100000001, 1000));
-        Due.refused("no such clock", Due.ELEMENT, () -> k.beyond(1, -1, 1000));
+        Due.refused("no such clock", Due.ELEMENT, () -> k.beyond(2, -1, 1000));
     }
 
     private static void law() {

@@ -38,12 +38,40 @@ public final class ModelTest {
     }
 
     private void all() {
+        if (chance.nextInt(4) == 0) {
+            planning();
+            return;
+        }
         boolean early = chance.nextInt(3) > 0;
         for (int i = 0; early && i < 1 + chance.nextInt(8) && !wrong; i++) {
             newText(true);
         }
         for (int i = 0; i < CALLS / 2 && !wrong; i++) {
             step();
+        }
+    }
+
+    /** Clocks that are soon run down, so that few windings at one time are hard to share out. */
+    private void planning() {
+        int clocks = n(2, 7);
+        for (int i = 0; i < clocks; i++) {
+            int x = n(0, 99);
+            int y = n(0, 99);
+            String text = "run " + n(2, chance.nextBoolean() ? 5 : 12) + ";";
+            feed(text);
+            same("clock(" + x + ", " + y + ", " + text.length() + ") " + text, () -> keeper.clock(x, y, text.length()),
+                () -> model.clock(x, y, text.length()));
+        }
+        for (int i = 0; i < 12 && !wrong; i++) {
+            int m = chance.nextBoolean() ? n(0, 1500) : 1440 * n(0, 1);
+            same("wait(" + m + ")", () -> keeper.wait(m), () -> model.wait(m));
+            for (int j = 0; j < clocks; j++) {
+                int c = j;
+                if (model.clocks.get(c).left <= 1440 || chance.nextInt(3) == 0) {
+                    same("wind(" + c + ", 0)", () -> keeper.wind(c, 0), () -> model.wind(c, 0));
+                }
+            }
+            planOrRound();
         }
     }
 

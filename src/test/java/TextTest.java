@@ -181,6 +181,11 @@ public final class TextTest {
         Due.is("the last base", k.rate(0), -3);
         k = Due.with("strike rack 7;strike wheel 5,2;");
         Due.is("a wheel behind a rack", k.told(0, 8), 5);
+        k = Due.with("run 31;calendar months;calendar plain;");
+        Due.pass(k, 31 * 1440);
+        k.wind(0, 0);
+        Due.pass(k, 28 * 1440);
+        Due.is("the last calendar", k.told(0, 3), 29);
         k = Due.with("strike wheel 5,2;strike wheel 3;");
         Due.is("PLACE goes round the last wheel", k.trip(0, true), 0);
     }

@@ -68,14 +68,13 @@ public final class ClockKeeper {
 
     public int clock(int x, int y, int n) throws IllegalArgumentException {
         need(isPlace(x, y) && isOnTape(n));
-        if (clockCount >= MOST_CLOCKS) {
-            tapeLength = 0;
-            faultPlace = NONE;
-            return -1;
-        }
+        // The document puts a FAULT ahead of there being 8, so the TEXT is read even when no CLOCK can come of it.
         int fault = readSpare(n);
         if (fault != 0) {
             return fault - 10;
+        }
+        if (clockCount >= MOST_CLOCKS) {
+            return -1;
         }
         Clock made = new Clock(x, y);
         made.begin(spare, almanac);
@@ -1014,21 +1013,23 @@ public final class ClockKeeper {
         }
 
         private boolean takeOpening() {
-            if (nextIs('(') && open >= MOST_OPEN) {
+            if (!nextIs('(')) {
+                return refuse(UNFIT, at);
+            }
+            if (open >= MOST_OPEN) {
                 return refuse(TOO_MANY, at);
             }
-            if (!takeSign('(')) {
-                return false;
-            }
             open++;
+            skipSign();
             return true;
         }
 
         private boolean takeClosing() {
-            if (!takeSign(')')) {
-                return false;
+            if (!nextIs(')')) {
+                return refuse(UNFIT, at);
             }
             open--;
+            skipSign();
             return true;
         }
     }

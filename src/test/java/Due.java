@@ -24,6 +24,14 @@ final class Due {
         }
     }
 
+    static void same(String what, String got, String want) {
+        asked++;
+        if (!got.equals(want)) {
+            wrong++;
+            System.out.println(what + " is\n" + got + "\ndue is\n" + want);
+        }
+    }
+
     static void refused(String call, Class<?> kind, Call made) {
         asked++;
         String got;

@@ -886,20 +886,20 @@ public final class ClockKeeper {
             }
         }
 
-        private boolean readStrike() {
+        private void readStrike() {
             takeWord();
             if (wordIs("rack")) {
                 works.beginRack();
-                return readSum();
-            }
-            if (wordIs("wheel")) {
+                readSum();
+            } else if (wordIs("wheel")) {
                 works.beginWheel();
-                return readTeeth();
+                readTeeth();
+            } else {
+                refuse(UNFIT, wordFrom);
             }
-            return refuse(UNFIT, wordFrom);
         }
 
-        private boolean readTeeth() {
+        private void readTeeth() {
             boolean more = true;
             for (int i = 0; more && i <= Works.MOST_TEETH; i++) {
                 int tooth = takeNumber(0, 12);
@@ -911,7 +911,6 @@ public final class ClockKeeper {
                     skipSign();
                 }
             }
-            return fault == 0;
         }
 
         private void readQuarters() {
@@ -920,21 +919,20 @@ public final class ClockKeeper {
             }
         }
 
-        private boolean readSilent() {
+        private void readSilent() {
             works.silentFrom = takeNumber(0, 23);
             if (fault != 0 || !takeSign('-')) {
-                return false;
+                return;
             }
             works.silentTo = takeNumber(0, 23);
-            if (fault != 0) {
-                return false;
-            }
             takeWord();
             works.stopped = wordIs("stopped");
-            return works.stopped || wordIs("held") || refuse(UNFIT, wordFrom);
+            if (!works.stopped && !wordIs("held")) {
+                refuse(UNFIT, wordFrom);
+            }
         }
 
-        private boolean readCalendar() {
+        private void readCalendar() {
             takeWord();
             if (wordIs("plain")) {
                 works.calendar = Works.PLAIN;
@@ -943,9 +941,8 @@ public final class ClockKeeper {
             } else if (wordIs("leap")) {
                 works.calendar = Works.BY_LEAP;
             } else {
-                return refuse(UNFIT, wordFrom);
+                refuse(UNFIT, wordFrom);
             }
-            return true;
         }
 
         /** E; it and the three below call one another no deeper than MOST_OPEN brackets are open. */

@@ -124,7 +124,8 @@ public final class ModelTest {
         int x = near(0, chance.nextBoolean() ? 99 : 20);
         int y = near(0, chance.nextBoolean() ? 99 : 20);
         int length = chance.nextInt(30) == 0 ? near(0, 400) : Math.min(text.length(), 400);
-        if (model.clocks.size() == 8 || !valid && chance.nextBoolean()) {
+        boolean refit = model.clocks.size() == 8 ? chance.nextInt(4) > 0 : !valid && chance.nextBoolean();
+        if (refit) {
             int clock = clock();
             same("refit(" + clock + ", " + length + ") " + text, () -> keeper.refit(clock, length), () -> model.refit(clock, length));
         } else {

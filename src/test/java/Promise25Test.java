@@ -14,6 +14,7 @@ public final class Promise25Test {
         asBits();
         tenDays();
         allOfThemLate();
+        oneMakesRoomForTheOther();
         runsOfADay();
         longRuns();
         changesNothing();
@@ -174,6 +175,19 @@ public final class Promise25Test {
         Due.is("too late for all", k.plan(15, 10, 2, 0), -1);
         Due.is("three in time is too late as well", k.plan(14, 10, 2, 0), -1);
         Due.is("two in time", k.plan(12, 10, 2, 1), 12);
+    }
+
+    // the short run must be wound time by time, so the long one has to come ahead of it
+    private static void oneMakesRoomForTheOther() {
+        ClockKeeper k = new ClockKeeper();
+        Due.clock(k, 0, 0, "run 2;");
+        Due.clock(k, 0, 0, "run 31;");
+        Due.pass(k, 29 * 1440);
+        k.wind(0, 0);
+        plan("one at once", k, 3, 1, 3, 2, 1, 1);
+        plan("two at once", k, 3, 2, 3, 0, 3, 1);
+        k.wait(1440);
+        plan("too late for one at once", k, 3, 1, -1, -1, -1, -1);
     }
 
     // 1,440 MINUTES behind a WINDING none is LEFT of run 1

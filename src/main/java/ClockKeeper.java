@@ -68,13 +68,13 @@ public final class ClockKeeper {
 
     public int clock(int x, int y, int n) throws IllegalArgumentException {
         need(isPlace(x, y) && isOnTape(n));
-        // The document puts a FAULT ahead of there being 8, so the TEXT is read even when no CLOCK can come of it.
+        if (clockCount >= MOST_CLOCKS) {
+            leaveUnread();
+            return -1;
+        }
         int fault = readSpare(n);
         if (fault != 0) {
             return fault - 10;
-        }
-        if (clockCount >= MOST_CLOCKS) {
-            return -1;
         }
         Clock made = new Clock(x, y);
         made.begin(spare, almanac);
@@ -427,6 +427,12 @@ public final class ClockKeeper {
         int fault = reader.readWorks(tape, n, spare);
         faultPlace = reader.place;
         return fault;
+    }
+
+    /** No CLOCK can come of the TEXT, so it is gone without a look at it: whatever stood there is no FAULT of this call. */
+    private void leaveUnread() {
+        tapeLength = 0;
+        faultPlace = NONE;
     }
 
     private void passMinute() {

@@ -454,12 +454,14 @@ final class Model {
     int clock(int x, int y, int n) {
         place(x, y);
         arg(n >= 0 && n <= tape.length());
+        if (clocks.size() == 8) {
+            tape = new StringBuilder();
+            faultPlace = NONE;
+            return -1;
+        }
         Works w = parse(n);
         if (w == null) {
             return faultKind - 10;
-        }
-        if (clocks.size() == 8) {
-            return -1;
         }
         Clock c = new Clock();
         c.number = clocks.size();

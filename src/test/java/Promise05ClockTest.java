@@ -10,6 +10,7 @@ public final class Promise05ClockTest {
         numbers();
         eighthAndNinth();
         ninthWithTwoReasons();
+        eighthWithAFault();
         faulty();
         refusedKeepTheTape();
         asItComes();
@@ -102,19 +103,36 @@ public final class Promise05ClockTest {
         Due.is("a ninth of no bytes", k.clock(0, 0, 0), -1);
     }
 
-    // two reasons at once: the exceptions, then the FAULT, then -1, as the document puts them
+    // "-1: there are 8" names its condition whole: it goes ahead of the FAULT, and the exceptions ahead of both
     private static void ninthWithTwoReasons() {
         ClockKeeper k = withEight();
         Due.feed(k, "run 0;");
         Due.refused("a ninth outside", Due.ARGUMENT, () -> k.clock(100, 0, 6));
         Due.refused("a ninth of too many bytes", Due.ARGUMENT, () -> k.clock(0, 0, 21));
         Due.is("both keep the TAPE", k.count(6), 20);
-        Due.is("a faulty ninth", k.clock(0, 0, 6), -8);
-        Due.is("its place", k.fault(), 4);
+        Due.is("a ninth that has FAULT 2", k.clock(0, 0, 6), -1);
+        Due.is("the TAPE is empty", k.count(6), 0);
+        Due.is("CLOCKS", k.count(1), 8);
+        k.feed(0, 0, 0, 0, 0);
+        Due.is("a ninth that has FAULT 1", k.clock(0, 0, 1), -1);
+        Due.is("the TAPE is empty", k.count(6), 0);
+        Due.is("a ninth that has FAULT 3", Due.clock(k, 0, 0, "strike rack " + "(".repeat(9)), -1);
         Due.is("the TAPE is empty", k.count(6), 0);
         Due.is("CLOCKS", k.count(1), 8);
         Due.is("a ninth without a FAULT", k.clock(0, 0, 0), -1);
-        Due.is("its FAULT", k.fault(), -1);
+        Due.is("a refit that has FAULT 2", Due.refit(k, 7, "run 0;"), -8);
+        Due.is("its place", k.fault(), 4);
+    }
+
+    // with 7 there the condition doesn't hold yet: a FAULT is answered, and the eighth comes behind it
+    private static void eighthWithAFault() {
+        ClockKeeper k = new ClockKeeper();
+        for (int i = 0; i < 7; i++) {
+            k.clock(i, i, 0);
+        }
+        Due.is("an eighth that has FAULT 2", Due.clock(k, 0, 0, "run 0;"), -8);
+        Due.is("CLOCKS", k.count(1), 7);
+        Due.is("an eighth without a FAULT", Due.clock(k, 0, 0, "run 1;"), 7);
     }
 
     // "or its FAULT less 10": no CLOCK comes, and nothing of its TEXT stays

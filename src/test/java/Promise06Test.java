@@ -7,6 +7,7 @@ public final class Promise06Test {
         atFirst();
         ofTheLatest();
         noneWithout();
+        noneOfANinth();
         ofRefit();
         notOfRefusedCalls();
         fromTheFirstByteToTheLength();
@@ -45,6 +46,20 @@ public final class Promise06Test {
         Due.is("a FAULT at 2", k.fault(), 2);
         Due.is("a ninth", k.clock(0, 0, 0), -1);
         Due.is("there are 8, but no FAULT", k.fault(), -1);
+    }
+
+    // "of the latest clock()": one that answers -1, since there are 8, has told no FAULT, whatever its TEXT is
+    private static void noneOfANinth() {
+        ClockKeeper k = new ClockKeeper();
+        for (int i = 0; i < 8; i++) {
+            k.clock(0, 0, 0);
+        }
+        Due.is("a faulty ninth", Due.clock(k, 0, 0, "run 0;"), -1);
+        Due.is("behind none", k.fault(), -1);
+        Due.refit(k, 0, "  x");
+        Due.is("of a refit", k.fault(), 2);
+        Due.is("a faulty ninth", Due.clock(k, 0, 0, "run 0;"), -1);
+        Due.is("behind that of a refit", k.fault(), -1);
     }
 
     // "or refit()"

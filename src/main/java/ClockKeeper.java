@@ -759,7 +759,7 @@ public final class ClockKeeper {
             place = NONE;
             works = into;
             into.reset();
-            skipBlanks();
+            skip(0);
             for (int parts = 0; parts <= MOST_PARTS && fault == 0 && at < length; parts++) {
                 readPart(parts);
             }
@@ -774,9 +774,9 @@ public final class ClockKeeper {
             return false;
         }
 
-        /** Blanks go with what stands ahead of them, so that what is next begins where at is. */
-        private void skipBlanks() {
-            for (; at < length && text[at] == ' '; at++) {
+        /** Blanks go with the signs that stand ahead of them, so that what is next begins where at is. */
+        private void skip(int signs) {
+            for (at += signs; at < length && text[at] == ' '; at++) {
             }
         }
 
@@ -792,13 +792,8 @@ public final class ClockKeeper {
             if (!nextIs(sign)) {
                 return refuse(UNFIT, at);
             }
-            skipSign();
+            skip(1);
             return true;
-        }
-
-        private void skipSign() {
-            at++;
-            skipBlanks();
         }
 
         private void takeWord() {
@@ -806,7 +801,7 @@ public final class ClockKeeper {
             for (; at < length && text[at] >= 'a' && text[at] <= 'z'; at++) {
             }
             wordEnd = at;
-            skipBlanks();
+            skip(0);
         }
 
         private boolean wordIs(String word) {
@@ -827,7 +822,7 @@ public final class ClockKeeper {
             for (; at < length && text[at] >= '0' && text[at] <= '9'; at++) {
                 number = Math.min(HUGE, 10 * number + text[at] - '0');
             }
-            skipBlanks();
+            skip(0);
             if (number < least || number > most) {
                 refuse(NO_SUCH_NUMBER, numberFrom);
                 return 0;
@@ -838,7 +833,7 @@ public final class ClockKeeper {
         private int takeSigned() {
             boolean minus = nextIs('-');
             if (minus) {
-                skipSign();
+                skip(1);
             }
             int number = takeNumber(0, 500);
             return minus ? -number : number;
@@ -914,7 +909,7 @@ public final class ClockKeeper {
                 }
                 more = fault == 0 && nextIs(',');
                 if (more) {
-                    skipSign();
+                    skip(1);
                 }
             }
         }
@@ -956,7 +951,7 @@ public final class ClockKeeper {
             boolean well = readProduct();
             for (int i = 0; well && i < MOST_BYTES && (nextIs('+') || nextIs('-')); i++) {
                 int step = text[at] == '+' ? Formula.PLUS : Formula.MINUS;
-                skipSign();
+                skip(1);
                 well = readProduct() && works.rack.add(step);
             }
             return well;
@@ -971,7 +966,7 @@ public final class ClockKeeper {
                 } else if (text[at] == '/') {
                     step = Formula.BY;
                 }
-                skipSign();
+                skip(1);
                 well = readUnit() && works.rack.add(step);
             }
             return well;
@@ -1010,7 +1005,7 @@ public final class ClockKeeper {
             } else if (!nextIs('=')) {
                 return refuse(UNFIT, at);
             }
-            skipSign();
+            skip(1);
             return readSum() && takeSign(',') && readSum() && takeSign(',') && readSum() && takeClosing()
                 && works.rack.add(step);
         }
@@ -1023,7 +1018,7 @@ public final class ClockKeeper {
                 return refuse(TOO_MANY, at);
             }
             open++;
-            skipSign();
+            skip(1);
             return true;
         }
 
@@ -1032,7 +1027,7 @@ public final class ClockKeeper {
                 return refuse(UNFIT, at);
             }
             open--;
-            skipSign();
+            skip(1);
             return true;
         }
     }
